@@ -17,12 +17,22 @@ public final class LinkTest {
         new LinkTest().unknownControl();
         new LinkTest().controlForTheOtherRole();
         new LinkTest().controlWhileMoreThanFourWait();
+        new LinkTest().sixControlsWait();
+        mapAtItsInstant(32767, 0);
+        mapAtItsInstant(32768, 40);
+        mapAtItsInstant(0, 40);
+        new LinkTest().anImproperMapInPlaceOfAnother();
         new LinkTest().endIsHeardOnce();
         new LinkTest().sealedPackets();
+        new LinkTest().manySealedPackets();
         new LinkTest().aWrongMic();
         new LinkTest().noKeyThere();
         new LinkTest().heldMessagesWait();
         new LinkTest().piecesOfMessages();
+        longestMessage(92, 5);
+        longestMessage(93, NONE);
+        new LinkTest().piecesThatAreGone();
+        new LinkTest().aMessageCutByTheEnd();
         new LinkTest().aMessageForNoChannel();
         new LinkTest().eightMessagesWait();
         new LinkTest().pairingStepByStep();
@@ -30,6 +40,8 @@ public final class LinkTest {
         new LinkTest().searchesThatFail();
         new LinkTest().rowsOfOneWidth();
         new LinkTest().readsAndWrites();
+        new LinkTest().longWrites();
+        new LinkTest().noBytesAtAll();
         new LinkTest().aValueThatGrowsShorter();
         new LinkTest().preparedParts();
         new LinkTest().requestsThatAreNone();
@@ -296,6 +308,63 @@ public final class LinkTest {
         }
     }
 
+    private void sixControlsWait() {
+        link(2, 200);
+        x.allow(1, 1);
+        x.pair(0, 1);
+        x.tick(40);
+        drop(0);
+        drop(1);
+        for (int i = 0; i < 5; i++) {
+            x.control(1, 1);
+        }
+        x.lose(1, 1);
+        x.tick(2);
+        due("four wait", seen(1, 9), 4);
+        x.encrypt(0);
+        x.tick(2);
+        due("four wait", seen(1, 9), 4);
+        x.tick(2);
+        due("a 4 and a 5 more, less the one that was taken", seen(1, 9), 5);
+        x.tick(40);
+        came(0, 12, 0, 0, 0, 0);
+        came(1, 12, 0, 0, 0, 0);
+        nothingElse(1);
+    }
+
+    /** A new MAP that comes with its INSTANT so far ahead of the EVENT, and the REASON that is due. */
+    private static void mapAtItsInstant(int ahead, int reason) {
+        LinkTest t = new LinkTest();
+        t.link(2, 200);
+        t.x.tick(6);
+        int instant = t.seen(0, 1) + ahead;
+        t.x.map(0, ALL);
+        t.change(0, 6, instant & 255, 7, instant >> 8);
+        t.x.tick(2);
+        due("PERIPHERAL", t.seen(1, 0), reason == 0 ? 5 : 0);
+        due("the REASON", t.x.x.completion(1, 1), reason == 0 ? NONE : reason);
+    }
+
+    private void anImproperMapInPlaceOfAnother() {
+        link(2, 200);
+        long other = ALL ^ 1L << 32;
+        int event = seen(0, 1);
+        x.map(0, ALL);
+        change(0, 5, 0x1E, 6, event + 30);
+        x.tick(20);
+        x.map(0, ALL);
+        change(0, 5, 0x3F);
+        x.tick(60);
+        due("none waits, so the MAP stays", x.x.number(1, 0), ALL);
+        event = seen(0, 1);
+        x.map(0, ALL);
+        change(0, 5, 0x1E, 6, event + 20);
+        x.tick(2 * 20);
+        due("one waits", x.x.number(1, 0), ALL);
+        x.tick(2);
+        due("with EVENT its INSTANT it is the MAP", x.x.number(1, 0), other);
+    }
+
     private void endIsHeardOnce() {
         link(5, 200);
         x.control(1, 2);
@@ -349,6 +418,18 @@ public final class LinkTest {
         x.tick(10);
         due("an EMPTY one is not SEALED", seen(1, 15), 2);
         due("nor counted", seen(0, 15), 2);
+    }
+
+    private void manySealedPackets() {
+        link(2, 200);
+        secure();
+        for (int i = 1; i <= 300; i++) {
+            x.control(0, 1);
+            x.tick(4);
+            drop(0);
+            due("sent SEALED", seen(0, 15), 1 + i);
+            due("opened SEALED", seen(0, 16), 1 + i);
+        }
     }
 
     private void aWrongMic() {
@@ -447,6 +528,89 @@ public final class LinkTest {
         x.send(0, 0, 1);
         x.tick(2);
         due("the next one comes", x.value(1, 1, NONE), 0);
+    }
+
+    private void again(int sort) {
+        int[] is = nextPacket(0);
+        int[] shall = is.clone();
+        shall[0] = is[0] & 252 | sort;
+        x.forge(0, is, shall);
+        x.tick(2);
+    }
+
+    private void piecesThatAreGone() {
+        x.mtu(0, 64);
+        x.mtu(1, 64);
+        attribute(0x2A00, 3, 1);
+        link(2, 200);
+        x.job(0, 0, 0, 0);
+        x.tick(12);
+        bytes(run(40));
+        x.send(0, 0, 1);
+        change(0, 0, 30);
+        x.tick(4);
+        x.send(0, 0, 1);
+        again(1);
+        due("with more bytes than told it is gone, and what goes on with it", x.value(1, 1, NONE), 1);
+        x.control(0, 2);
+        int[] is = nextPacket(0);
+        int[] shall = is.clone();
+        shall[0] = is[0] & 252 | 2;
+        shall[2] = 5;
+        shall[3] = 0;
+        x.lose(1, 2);
+        x.forge(0, is, shall);
+        x.tick(2);
+        due("a first piece of two bytes is taken, and gone", seen(1, 26), 1);
+        x.tick(2);
+        nothingElse(1);
+    }
+
+    private void aMessageCutByTheEnd() {
+        x.mtu(0, 64);
+        x.mtu(1, 64);
+        attribute(0x2A00, 3, 1);
+        link(2, 200);
+        x.job(0, 0, 0, 0);
+        x.tick(12);
+        bytes(run(40));
+        x.send(0, 0, 1);
+        x.tick(2);
+        x.control(0, 2);
+        x.tick(10);
+        due("STANDBY", seen(0, 0), 0);
+        due("no message", seen(0, 10), 0);
+        link(2, 200);
+        bytes(run(20));
+        x.send(0, 0, 1);
+        again(1);
+        due("nothing was begun in this link", x.value(1, 1, NONE), 1);
+        bytes(run(7));
+        x.send(0, 0, 1);
+        x.tick(2);
+        due("the first piece begins", x.value(1, 1, NONE), 7);
+    }
+
+    /** Four messages go as the pieces of one: a request with far too many bytes, if it is whole. */
+    private static void longestMessage(int told, int answerBytes) {
+        LinkTest t = new LinkTest();
+        t.link(2, 200);
+        for (int i = 0; i < 4; i++) {
+            t.bytes(run(i < 3 ? 20 : told - 84));
+            t.x.send(0, 0, 1);
+        }
+        t.change(0, 0, told, 4, 10);
+        t.x.tick(2);
+        for (int i = 0; i < 3; i++) {
+            int[] is = t.nextPacket(0);
+            int[] shall = is.clone();
+            shall[0] = is[0] & 252 | 1;
+            t.x.forge(0, is, shall);
+            t.x.tick(2);
+        }
+        int[] answer = Both.plain(t.x.o.sky.get(1));
+        due("an ERROR, if it is whole", answer.length, answerBytes == NONE ? 2 : 2 + 4 + answerBytes);
+        due("the program's, too", t.x.x.air(1, NONE), 4 + answer.length + 3);
     }
 
     private void aMessageForNoChannel() {
@@ -665,6 +829,54 @@ public final class LinkTest {
         x.tick(20);
         came(0, 5, 3, 0, 0, 0);
         due("no bytes", x.value(1, 3, NONE), 0);
+    }
+
+    private void longWrites() {
+        x.mtu(0, 64);
+        x.mtu(1, 64);
+        attribute(0x2A00, 3, 1);
+        link(2, 200);
+        x.job(0, 0, 0, 0);
+        x.tick(12);
+        bytes(run(61));
+        CHECK.due("MTU - 3", x.send(0, 0, 1), true);
+        x.tick(6);
+        due("an 82 of more than 40 bytes does nothing", x.value(1, 1, NONE), 1);
+        bytes(run(62));
+        CHECK.due("more than MTU - 3", x.send(0, 0, 1), false);
+        x.end(41);
+        x.send(0, 0, 1);
+        change(0, 4, 18);
+        x.tick(4);
+        due("an 18 of more", Both.plain(x.o.sky.get(1))[10], 13);
+        due("does nothing", x.value(1, 1, NONE), 1);
+        bytes(run(40));
+        x.send(0, 0, 1);
+        x.tick(6);
+        due("40 bytes do", x.value(1, 1, NONE), 40);
+    }
+
+    private void noBytesAtAll() {
+        attribute(0x2800, 1);
+        attribute(0x2803, 1);
+        attribute(0x2A00, 3);
+        link(2, 200);
+        x.job(0, 6, 0, 0);
+        x.tick(20);
+        came(0, 6, 1, 3, 0, 0);
+        came(0, 8, 6, 0, 0, 0);
+        x.job(0, 1, 0, 0);
+        x.tick(20);
+        came(0, 1, 1, 3, 0, 0);
+        came(0, 8, 1, 0, 0, 0);
+        x.job(0, 2, 1, 3);
+        x.tick(20);
+        came(0, 2, 2, 0, 0, 0);
+        came(0, 8, 2, 0, 0, 0);
+        x.job(0, 4, 3, 0);
+        x.tick(20);
+        came(0, 4, 3, 0, 0, 0);
+        came(0, 8, 4, 0, 0, 0);
     }
 
     private void aValueThatGrowsShorter() {

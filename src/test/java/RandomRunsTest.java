@@ -57,7 +57,7 @@ public final class RandomRunsTest {
         if (type == 0x2800 || type == 0x2801) {
             both.end(0);
             both.feed(pick(0x0A180000, 0x0F180000), 0, 0, 0, 0);
-            both.end(pick(2, 2, 2, 16));
+            both.end(pick(0, 2, 2, 2, 16));
         } else {
             fill(pick(0, 1, 5, 5, 18, 19, 20, 22, 40, r.nextInt(41)));
         }
@@ -156,7 +156,7 @@ public final class RandomRunsTest {
         } else if (kind == 6) {
             both.end(0);
             both.feed(pick(0x0A180000, 0x0F180000), 0, 0, 0, 0);
-            both.end(pick(2, 2, 2, 16, 20));
+            both.end(pick(0, 2, 2, 2, 16, 20));
         }
         int a = pick(1, 1, r.nextInt(21), r.nextInt(21), r.nextInt(21), r.nextInt(70000) - 1000);
         both.job(d, kind, a, pick(65535, 65535, 65535, r.nextInt(21), r.nextInt(70000) - 1000));
