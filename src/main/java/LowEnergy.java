@@ -1901,7 +1901,6 @@ public final class LowEnergy {
         }
 
         private static void refuse(int op, int handle, int code, Row reply) {
-            reply.clear();
             reply.put(1);
             reply.put(op);
             reply.putNumber(handle, 2);

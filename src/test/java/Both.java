@@ -215,8 +215,20 @@ final class Both {
         return true;
     }
 
-    /** Compares all that is to be seen, but for the values, the air and the kept completions. */
+    private void lookAtTheAir() {
+        for (int k = 0; k < o.sky.size(); k++) {
+            Oracle.Packet p = o.sky.get(k);
+            check.due("channel of packet " + k, x.air(k, -2), p.channel);
+            check.due("bytes of packet " + k, x.air(k, -1), p.bytes.length);
+            for (int i = 0; i < p.bytes.length; i++) {
+                check.due("air(" + k + ", " + i + ")", x.air(k, i), p.bytes[i]);
+            }
+        }
+    }
+
+    /** Compares what is to be seen without long loops. */
     void look() {
+        lookAtTheAir();
         for (int d = 0; d < 2; d++) {
             for (int w = 0; w <= 28; w++) {
                 check.due("device(" + d + ", " + w + ")", x.device(d, w), o.device(d, w));

@@ -27,6 +27,7 @@ public final class LinkTest {
         new LinkTest().manySealedPackets();
         new LinkTest().aWrongMic();
         new LinkTest().noKeyThere();
+        new LinkTest().aRefusalAheadOfTheRequest();
         new LinkTest().heldMessagesWait();
         new LinkTest().piecesOfMessages();
         longestMessage(92, 5);
@@ -37,6 +38,9 @@ public final class LinkTest {
         new LinkTest().eightMessagesWait();
         new LinkTest().pairingStepByStep();
         new LinkTest().searches();
+        for (int mtu = 23; mtu <= 28; mtu++) {
+            new LinkTest().twentyAttributes(mtu);
+        }
         new LinkTest().searchesThatFail();
         new LinkTest().rowsOfOneWidth();
         new LinkTest().readsAndWrites();
@@ -473,6 +477,29 @@ public final class LinkTest {
         CHECK.due("once more", x.encrypt(1), true);
     }
 
+    private void aRefusalAheadOfTheRequest() {
+        link(2, 200);
+        x.allow(1, 1);
+        x.pair(0, 1);
+        x.tick(40);
+        drop(0);
+        drop(1);
+        x.control(0, 0);
+        change(0, 0, 11);
+        x.lose(1, 1);
+        x.tick(2);
+        x.encrypt(0);
+        change(1, 0, 13, 1, 9);
+        x.tick(2);
+        came(0, 13, 9, 0, 0, 0);
+        due("not HELD", seen(0, 13), 0);
+        x.tick(4);
+        due("the other one is HELD", seen(1, 13), 1);
+        due("a 4 that it does not ask for any more", x.x.byteOf(0, 2, 0), NONE);
+        due("a 5 without a 4", seen(0, 9), 0);
+        nothingElse(0);
+    }
+
     private void heldMessagesWait() {
         link(2, 200);
         x.allow(1, 123456);
@@ -730,6 +757,40 @@ public final class LinkTest {
         nothingElse(0);
     }
 
+    private void twentyAttributes(int mtu) {
+        x.mtu(0, mtu);
+        x.mtu(1, mtu);
+        for (int h = 1; h <= 20; h++) {
+            attribute(h > 10 ? 0x2803 : 0x2800, 3, 7, 7);
+        }
+        link(2, 400);
+        x.job(0, 0, 0, 0);
+        x.tick(20);
+        came(0, 8, 0, 0, 0, 0);
+        int[][] jobs = {{1, 1, 10}, {2, 11, 20}, {3, 1, 20}, {6, 1, 10}};
+        for (int[] j : jobs) {
+            bytes(7, 7);
+            x.job(0, j[0], 1, 65535);
+            for (int i = 0; i < 100; i++) {
+                x.tick(1);
+                x.look();
+            }
+            for (int h = j[1]; h <= j[2]; h++) {
+                int second = j[0] == 2 ? 0 : j[0] == 3 ? h > 10 ? 0x2803 : 0x2800 : h == 10 ? 20 : h;
+                came(0, j[0], h, second, 0, j[0] < 3 ? 2 : 0);
+            }
+            came(0, 8, j[0], 0, 0, 0);
+        }
+        bytes(1, 2, 3);
+        x.job(0, 5, 20, 0);
+        x.tick(20);
+        came(0, 5, 20, 0, 0, 0);
+        drop(0);
+        x.job(0, 4, 20, 0);
+        x.tick(20);
+        came(0, 4, 20, 0, 0, 3);
+    }
+
     private void searchesThatFail() {
         services();
         link(2, 200);
@@ -849,6 +910,7 @@ public final class LinkTest {
         change(0, 4, 18);
         x.tick(4);
         due("an 18 of more", Both.plain(x.o.sky.get(1))[10], 13);
+        x.look();
         due("does nothing", x.value(1, 1, NONE), 1);
         bytes(run(40));
         x.send(0, 0, 1);

@@ -973,5 +973,18 @@ public final class PromisesTest {
         }
         dueCompletion("the last one", x, 0, 7, 22, 0, 0, 0);
         no("all are gone", x.take(0));
+        LowEnergy y = new LowEnergy(A, B);
+        for (int i = 0; i < 18; i++) {
+            link(y, 2, 100);
+            y.control(0, 2);
+            y.tick(4);
+        }
+        due("32 are kept", y.device(1, 24), 32);
+        due("4 are lost", y.device(1, 25), 4);
+        for (int i = 0; i < 16; i++) {
+            dueCompletion("connected", y, 1, 0, 5, 0, 0, 0);
+            dueCompletion("DISCONNECTED", y, 1, 7, 19, 0, 0, 0);
+        }
+        no("all are gone", y.take(1));
     }
 }
