@@ -22,6 +22,7 @@ public final class LinkTest {
         mapAtItsInstant(32768, 40);
         mapAtItsInstant(0, 40);
         new LinkTest().anImproperMapInPlaceOfAnother();
+        new LinkTest().eventsGoRound();
         new LinkTest().endIsHeardOnce();
         new LinkTest().sealedPackets();
         new LinkTest().manySealedPackets();
@@ -367,6 +368,26 @@ public final class LinkTest {
         due("one waits", x.x.number(1, 0), ALL);
         x.tick(2);
         due("with EVENT its INSTANT it is the MAP", x.x.number(1, 0), other);
+    }
+
+    private void eventsGoRound() {
+        link(2, 200);
+        for (int i = 0; i < 131; i++) {
+            x.tick(1000);
+        }
+        x.tick(64);
+        due("EVENT", seen(0, 1), 65532);
+        x.map(0, 3);
+        x.tick(8);
+        due("EVENT", seen(0, 1), 0);
+        x.tick(8);
+        due("EVENT", seen(1, 1), 4);
+        due("the MAP waits", x.x.number(1, 0), ALL);
+        x.tick(2);
+        due("INSTANT", x.x.number(0, 0), 3);
+        due("INSTANT", x.x.number(1, 0), 3);
+        x.tick(20);
+        due("both hear each other", seen(1, 26), seen(0, 26));
     }
 
     private void endIsHeardOnce() {
