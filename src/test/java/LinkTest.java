@@ -1,12 +1,10 @@
 /** What happens between the devices (parts 1 to 8), by runs with the answers that the document gives. */
-public final class LinkTest {
+public final class LinkTest extends Runs {
     private static final Check CHECK = new Check("LinkTest");
-    private static final int NONE = -1;
-    private static final long A = 0x010203040506L;
-    private static final long B = 0x0A0B0C0D0E0FL;
-    private static final long ALL = 0x1FFFFFFFFFL;
 
-    private final Both x = new Both(CHECK, A, B);
+    private LinkTest() {
+        super(CHECK);
+    }
 
     public static void main(String[] args) {
         new LinkTest().lostPacketsAreSentAgain();
@@ -55,95 +53,6 @@ public final class LinkTest {
 
     private static void due(String what, long got, long want) {
         CHECK.due(what, got, want);
-    }
-
-    private int seen(int device, int what) {
-        x.look();
-        return x.x.device(device, what);
-    }
-
-    private void bytes(int... bytes) {
-        x.end(0);
-        int n = bytes.length;
-        for (int i = 0; i < n; i += 20) {
-            int[] w = new int[5];
-            for (int k = 0; k < 20 && i + k < n; k++) {
-                w[k / 4] |= bytes[i + k] << 24 - 8 * (k % 4);
-            }
-            x.feed(w[0], w[1], w[2], w[3], w[4]);
-        }
-        x.end(n);
-    }
-
-    private static int[] run(int n) {
-        int[] r = new int[n];
-        for (int i = 0; i < n; i++) {
-            r[i] = i + 1;
-        }
-        return r;
-    }
-
-    private void attribute(int type, int rights, int... value) {
-        bytes(value);
-        x.attribute(1, type, rights);
-    }
-
-    private void link(int interval, int timeout) {
-        x.end(0);
-        x.advertise(1, 5);
-        x.connect(0, B, interval, timeout, 7, ALL);
-        for (int i = 0; i < 30 && x.o.device(1, 0) != 5; i++) {
-            x.tick(1);
-        }
-        due("CENTRAL", seen(0, 0), 4);
-        due("PERIPHERAL", seen(1, 0), 5);
-        drop(0);
-        drop(1);
-    }
-
-    private void drop(int d) {
-        for (int i = 0; i < 33; i++) {
-            x.take(d);
-        }
-    }
-
-    /** The first completion: its kind, its three numbers, how many bytes it has. */
-    private void came(int d, int... want) {
-        x.lookClosely();
-        for (int i = 0; i < want.length; i++) {
-            due("completion(" + d + ", " + i + ")", x.x.completion(d, i), want[i]);
-        }
-        x.take(d);
-    }
-
-    private void nothingElse(int d) {
-        due("nothing else came to " + d, x.x.completion(d, 0), NONE);
-    }
-
-    private int[] nextPacket(int d) {
-        return Both.plain(x.peek(d, 60));
-    }
-
-    /** The next packet of a device goes with some bytes of its PAYLOAD changed, and is GOOD still. */
-    private void change(int d, int... placesAndBytes) {
-        int[] is = nextPacket(d);
-        int[] shall = is.clone();
-        for (int i = 0; i < placesAndBytes.length; i += 2) {
-            shall[2 + placesAndBytes[i]] = placesAndBytes[i + 1];
-        }
-        CHECK.due("it can be forged", x.forge(d, is, shall), true);
-    }
-
-    private void secure() {
-        x.allow(1, 123456);
-        x.pair(0, 123456);
-        x.tick(60);
-        came(0, 10, 0, 0, 0, 0);
-        came(1, 10, 0, 0, 0, 0);
-        x.encrypt(0);
-        x.tick(30);
-        came(0, 12, 0, 0, 0, 0);
-        came(1, 12, 0, 0, 0, 0);
     }
 
     private void lostPacketsAreSentAgain() {
